@@ -15,6 +15,7 @@ public final class HouseTest {
         set();
         fall();
         put();
+        putOverTheWeakest();
         clear();
         corner();
         where();
@@ -215,6 +216,20 @@ public final class HouseTest {
         due.is("8: its GHOST stayed", z.corner(0, 3), 95);
         due.is("8: put(3, 0)", z.put(3, 0), 1);
         due.is("8: a GHOST that was there is gone", z.corner(0, 2), NONE);
+    }
+
+    private static void putOverTheWeakest() {
+        PalaceOfRooms x = new PalaceOfRooms();
+        x.fall(10, 30);
+        x.fall(7, 30);
+        x.fall(4, 30);
+        x.fall(1, 9);
+        x.put(0, 0);
+        x.days(4);
+        due.is("8: STRENGTH 1", x.corner(0, 1), 1);
+        x.put(1, 0);
+        due.is("8: of STRENGTH 1 there is a GHOST", x.corner(0, 2), 0);
+        due.is("8: of STRENGTH 1 there is a GHOST", x.corner(0, 3), 1);
     }
 
     private static void clear() {

@@ -8,6 +8,7 @@ public final class PupilsTest {
     public static void main(String[] args) {
         answer();
         pupil();
+        pupilWithOneTable();
         pupilWithoutTable();
         figures();
         code();
@@ -67,6 +68,24 @@ public final class PupilsTest {
         // a > 100 - LIMIT never holds for a of 1 .. 9 and LIMIT of 90 at most.
         due.is("29: no table forgets in a DAY", z.pupil(0, 0), 0);
         due.is("29: no d", z.pupil(0, 3), NONE);
+    }
+
+    private static void pupilWithOneTable() {
+        PalaceOfRooms x = new PalaceOfRooms();
+        // a = 1: LIMIT 40 is right after 60 DAYS, LIMIT 50 after 50 and not after 51.
+        x.answer(0, 50, true);
+        x.answer(0, 51, false);
+        due.is("29: one table", x.pupil(0, 0), 1);
+        due.is("29: it is the likeliest", x.pupil(0, 1), 150);
+        due.is("29: one is not parted", x.pupil(0, 3), 1);
+        // LIMIT 10 to 40: what parts them is beyond 60 DAYS.
+        x.answer(1, 59, true);
+        due.is("29: four tables", x.pupil(1, 0), 4);
+        due.is("29: right, and not, are least unlike", x.pupil(1, 3), 1);
+        // a = 1 with 10 to 50, a = 2 with 10.
+        x.answer(2, 45, true);
+        due.is("29: six tables", x.pupil(2, 0), 6);
+        due.is("29: 4 right and 2 not from DAY 51", x.pupil(2, 3), 51);
     }
 
     private static void pupilWithoutTable() {
@@ -134,6 +153,7 @@ public final class PupilsTest {
         due.is("31: n least", x.code(0, Integer.MIN_VALUE, 0), OUTSIDE);
         due.is("31: two alike", x.code(Due.row(0, 1, 0), 3, 0), OUTSIDE);
         due.is("31: i -2", x.code(Due.row(0, 1), 2, -2), OUTSIDE);
+        due.is("31: THING 24, the first", x.code(Due.row(24, 0), 2, 0), UNKNOWN);
         due.is("31: THING 24", x.code(Due.row(0, 24), 2, 0), UNKNOWN);
         due.is("31: UNKNOWN goes ahead of two alike", x.code(Due.row(0, 0, 24), 3, -2), UNKNOWN);
     }

@@ -85,6 +85,8 @@ public final class RulesTest {
         faultAt("room", 4);
         faultAt("room ", 5);
         faultAt("roo", 0);
+        faultAt("xoom 1 1", 0);
+        faultAt("walk 1 xvery 1", 7);
         faultAt("rooms 1 1", 0);
         faultAt("Room 1 1", 0);
         faultAt("roOm 1 1", 0);
@@ -158,6 +160,27 @@ public final class RulesTest {
         Due.write(x, "apart 8");
         x.rules();
         due.is("17: the old ones are gone", x.due(), 0);
+        oldRulesStayGone();
+    }
+
+    private static void oldRulesStayGone() {
+        PalaceOfRooms x = new PalaceOfRooms();
+        x.marks(0, 1);
+        x.marks(1, 1);
+        x.put(0, 0);
+        x.put(2, 1);
+        String[] texts = {"room 0 0;again 5;apart 0;walk 0 every 1", "room 7 0", "again 1;apart 8", "room 7 0"};
+        int[] bars = {7, 0, 2, 0};
+        for (int i = 0; i < texts.length; i++) {
+            Due.write(x, texts[i]);
+            x.rules();
+            due.is("17: bars() by " + texts[i], x.bars(1, 1), bars[i]);
+            due.is("17: due() by " + texts[i], x.due(), i == 0 ? 1 : 0);
+            Due.write(x, "room 0 0;walk 0 every 1;again 9;apart 0;");
+            due.is("17: fault() changes nothing", x.fault(), 40);
+            due.is("17: fault() changes nothing", x.bars(1, 1), bars[i]);
+            x.erase();
+        }
     }
 
     private static void barsByRoom() {
@@ -193,6 +216,7 @@ public final class RulesTest {
         x.days(1);
         due.is("18: three DAYS ago", x.bars(1, 0), 0);
         due.is("18: it bars no put()", x.put(1, 0), NONE);
+        due.is("18: PUT on DAY 3", x.bars(2, 0), 2);
         due.is("18: it bars no put()", x.put(2, 0), 1);
     }
 
@@ -270,6 +294,11 @@ public final class RulesTest {
         laidIs(x, Due.row(1, 2, 3), 3, 4, 1, 3, 2);
         laidIs(x, Due.row(2, 4, 1, 3), 4, 4, 1, 3, 4, 2);
         laidIs(x, Due.row(1, 2, 0), 3, 0, 1, 0, 2);
+        int[] ring = {0b00000011, 0b00000110, 0b00001100, 0b00011000, 0b00110000};
+        for (int k = 0; k < ring.length; k++) {
+            x.marks(16 + k, ring[k]);
+        }
+        laidIs(x, Due.row(20, 19, 18, 17, 16), 5, 0, 16, 18, 20, 17, 19);
         for (int thing = 8; thing < 16; thing++) {
             x.marks(thing, 255);
         }
@@ -286,6 +315,7 @@ public final class RulesTest {
         due.is("20: two alike", x.laid(Due.row(1, 2, 1), 3, 0), OUTSIDE);
         due.is("20: two alike, not so many", x.laid(Due.row(1, 1), 2, 2), OUTSIDE);
         due.is("20: i -2", x.laid(Due.row(1, 2), 2, -2), OUTSIDE);
+        due.is("20: THING 24, the first", x.laid(Due.row(24, 1), 2, 0), UNKNOWN);
         due.is("20: THING 24", x.laid(Due.row(1, 24), 2, 0), UNKNOWN);
         due.is("20: UNKNOWN goes ahead of two alike", x.laid(Due.row(1, 1, 31), 3, 0), UNKNOWN);
         due.is("20: UNKNOWN goes ahead of i", x.laid(Due.row(1, 31), 2, -2), UNKNOWN);
