@@ -792,10 +792,7 @@ public final class PalaceOfRooms {
         private int lines;
 
         RuleBook() {
-            Arrays.fill(mostIn, NONE);
-            Arrays.fill(walkEvery, NONE);
-            again = NONE;
-            apart = NONE;
+            forget();
         }
 
         void forget() {
