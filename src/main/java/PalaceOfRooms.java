@@ -35,6 +35,8 @@ public final class PalaceOfRooms {
     private static final int MOST_ANSWERS = 12;
     private static final int FIGURES = 10;
     private static final int MOST_ALIKE = 9;
+    /** Above the HARM of any CODE: it has fewer twos of FIGURES, each with 8 MARKS at most. */
+    private static final int BEYOND_HARM = MOST_CODED * MOST_CODED * 8 * MOST_ALIKE;
     /** Far above what any two STRENGTHS together can need. */
     private static final int MOST_DIVISIONS = 64;
     /** Five bits a THING: a long holds no more than these whole ones. */
@@ -1186,7 +1188,7 @@ public final class PalaceOfRooms {
 
         void findBest(int[] told, int n) {
             System.arraycopy(told, 0, things, 0, MOST_LAID);
-            bestHarm = Integer.MAX_VALUE;
+            bestHarm = BEYOND_HARM;
             seek(0, n, 0, 0);
         }
 

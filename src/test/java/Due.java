@@ -1,5 +1,12 @@
+import java.util.List;
+
 /** What every test shares: it prints each answer that is not the one due, and ends with exit code 1 if there was one. */
 final class Due {
+
+    /** A call of one palace. */
+    interface Call {
+        int on(PalaceOfRooms x);
+    }
 
     private int wrong;
     private int looked;
@@ -9,6 +16,34 @@ final class Due {
         if (got != want) {
             wrong++;
             System.out.println(call + " answered " + got + ", due is " + want);
+        }
+    }
+
+    void isNot(String call, long got, long bad) {
+        looked++;
+        if (got == bad) {
+            wrong++;
+            System.out.println(call + " answered " + got + ", which is not due");
+        }
+    }
+
+    /** The call answers this and changes nothing that can be seen. */
+    void leaves(String name, Palaces kind, Call call, int want) {
+        PalaceOfRooms called = kind.make();
+        is(name + ", " + kind, call.on(called), want);
+        same(name + ", " + kind + ": nothing changes", Seen.of(called), Seen.of(kind.make()));
+    }
+
+    private void same(String name, List<String> got, List<String> want) {
+        looked++;
+        for (int i = 0; i < want.size() || i < got.size(); i++) {
+            String due = i < want.size() ? want.get(i) : "nothing";
+            String seen = i < got.size() ? got.get(i) : "nothing";
+            if (!due.equals(seen)) {
+                wrong++;
+                System.out.println(name + ": " + seen + ", due is " + due);
+                return;
+            }
         }
     }
 
