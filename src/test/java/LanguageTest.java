@@ -23,7 +23,7 @@ public final class LanguageTest {
         "beside(int,int)", "answer(int,int,boolean)", "pupil(int,int)", "figures(int,int,int)",
         "code(long,int,int)", "enough(int)", "count(int)"};
     private static final String[] NOT_IN_THE_SOURCE = {"throw", "try", "catch", "synchronized", "assert", "->", "::",
-        "hashCode", "toString", "protected", "static {", "Exact(", "package ", "native", "volatile", "System.out"};
+        "hashCode", "toString", "protected", "static {", "Exact(", "package ", "native", "volatile", "System.out", "MAX_VALUE", "MIN_VALUE"};
     private static final Due due = new Due();
 
     public static void main(String[] args) throws IOException {

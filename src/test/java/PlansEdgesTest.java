@@ -110,7 +110,9 @@ public final class PlansEdgesTest {
         PalaceOfRooms x = new PalaceOfRooms();
         x.put(0, 0);
         x.put(1, 6);
-        for (int n = 1; n <= 4; n++) {
+        // From long to short, so that nothing of a longer PLAN may be left.
+        due.is("22: ROOM 0 on each DAY", x.plan(4, Due.minutes(1, 1, 1, 1), 3), 0);
+        for (int n = 4; n >= 1; n--) {
             for (int i = 0; i < n; i++) {
                 due.is("22: none on DAY " + i, x.plan(n, 0, i), NO_ROOM);
             }
@@ -301,6 +303,15 @@ public final class PlansEdgesTest {
         y.days(40);
         rightIs("0 of its GHOST", y, 0, 0, 1);
         rightIs("0 of others with 0", y, 1, NOT, NOT);
+        y.clear(0);
+        y.put(3, 0);
+        rightIs("its GHOST was taken off", y, 0, 1, 1);
+        PalaceOfRooms z = Palaces.withStrength(1);
+        z.put(1, 0);
+        z.fall(0, 1);
+        rightIs("a GHOST of 1", z, 0, 100, 101);
+        z.days(1);
+        rightIs("a GHOST of 0 is gone", z, 0, 1, 1);
     }
 
     private static void rightByTell() {
@@ -403,6 +414,12 @@ public final class PlansEdgesTest {
                 }
             }
         }
+        PalaceOfRooms first = new PalaceOfRooms();
+        first.door(1, 0);
+        first.put(0, 0);
+        first.put(1, 6);
+        due.is("25: the first CORNER of all", first.causes(6, 0), 4);
+        due.is("25: the first CORNER of all", first.causes(0, 1), 4);
         PalaceOfRooms y = new PalaceOfRooms();
         y.door(0, 7);
         y.put(0, 5);

@@ -13,6 +13,7 @@ public final class PupilsEdgesTest {
         likeliestOfSeveral();
         likeliestWithoutTable();
         partsOfAll();
+        partsAfterOneAnswer();
         partsOfOneTable();
         partsOfTwoTables();
         partsOfNone();
@@ -166,14 +167,36 @@ public final class PupilsEdgesTest {
     private static void partsOfAll() {
         PalaceOfRooms x = new PalaceOfRooms();
         for (int pupil = 0; pupil < 4; pupil++) {
-            due.is("29: without ANSWERS", x.pupil(pupil, 3), leastUnlike());
+            due.is("29: without ANSWERS", x.pupil(pupil, 3), 9);
         }
     }
 
-    private static int leastUnlike() {
-        int best = 1;
-        for (int d = 2; d <= 60; d++) {
-            if (Math.abs(2 * tablesThatAreRight(d) - 81) < Math.abs(2 * tablesThatAreRight(best) - 81)) {
+    private static void partsAfterOneAnswer() {
+        for (int d = 1; d <= 60; d++) {
+            PalaceOfRooms x = new PalaceOfRooms();
+            x.answer(0, d, true);
+            x.answer(3, d, false);
+            due.is("29: parts most, RIGHT on DAY " + d, x.pupil(0, 3), leastUnlike(d, true));
+            due.is("29: parts most, not RIGHT on DAY " + d, x.pupil(3, 3), leastUnlike(d, false));
+        }
+    }
+
+    private static int leastUnlike(int told, boolean right) {
+        int best = NONE;
+        int least = 0;
+        for (int d = 60; d >= 1; d--) {
+            int mayBe = 0;
+            int unlike = 0;
+            for (int a = 1; a <= 9; a++) {
+                for (int limit = 10; limit <= 90; limit += 10) {
+                    if (100 - a * told >= limit == right) {
+                        mayBe++;
+                        unlike += 100 - a * d >= limit ? 1 : -1;
+                    }
+                }
+            }
+            if (mayBe > 0 && (best == NONE || Math.abs(unlike) <= least)) {
+                least = Math.abs(unlike);
                 best = d;
             }
         }
@@ -270,7 +293,8 @@ public final class PupilsEdgesTest {
                 x.figures(a, b, 9);
             }
         }
-        for (int n = 2; n <= 6; n++) {
+        // From long to short, so that nothing of a longer row may be left.
+        for (int n = 6; n >= 2; n--) {
             due.is("31: all alike in all", x.code(Due.row(5, 4, 3, 2, 1, 0), n, -1), n * (n - 1) / 2 * 72);
             for (int i = 0; i < n; i++) {
                 due.is("31: the first by the order told", x.code(Due.row(5, 4, 3, 2, 1, 0), n, i), 5 - i);

@@ -141,7 +141,9 @@ public final class RefusalsTest {
         everywhere("20: i below -1", x -> x.laid(Due.row(5, 6), 2, -2), OUTSIDE);
         everywhere("20: UNKNOWN ahead of i", x -> x.laid(Due.row(5, 24), 2, -2), UNKNOWN);
         everywhere("20: UNKNOWN ahead of two alike", x -> x.laid(Due.row(24, 24), 2, 0), UNKNOWN);
-        everywhere("20: UNKNOWN ahead of n", x -> x.laid(Due.row(0, 1, 2, 3, 4, 5, 6, 7, 24), 9, 0), UNKNOWN);
+        everywhere("20: UNKNOWN ahead of n 9", x -> x.laid(Due.row(0, 1, 2, 3, 4, 5, 6, 7, 24), 9, 0), UNKNOWN);
+        everywhere("20: UNKNOWN ahead of n 12", x -> x.laid(Due.row(0, 1, 2, 3, 4, 5, 6, 7, 8, 9, 10, 24), 12, 0), UNKNOWN);
+        everywhere("20: no THING of n 0 is UNKNOWN", x -> x.laid(Due.row(24), 0, 0), OUTSIDE);
         everywhere("20: UNKNOWN ahead of NONE", x -> x.laid(Due.row(5, 24), 2, 2), UNKNOWN);
     }
 

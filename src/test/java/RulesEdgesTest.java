@@ -35,6 +35,8 @@ public final class RulesEdgesTest {
         laidOne();
         laidEight();
         laidOfSeveral();
+        laidWithTheLeastBetween();
+        laidAfterLongerRows();
         due.end();
     }
 
@@ -292,6 +294,7 @@ public final class RulesEdgesTest {
         due.is("17: apart tells", x.bars(1, 1), 4);
         Palaces.rule(x, "room 3 1");
         due.is("17: apart is gone", x.bars(1, 1), 0);
+        due.is("17: again does not come back", x.bars(1, 0), 0);
         due.is("33: LINES of THE RULES", x.count(6), 1);
     }
 
@@ -552,5 +555,35 @@ public final class RulesEdgesTest {
         due.is("20: the first of the least", x.laid(Due.row(1, 0, 2), 3, 0), 0);
         due.is("20: the first of the least", x.laid(Due.row(1, 0, 2), 3, 1), 2);
         due.is("20: the first of the least", x.laid(Due.row(1, 0, 2), 3, 2), 1);
+    }
+
+    /** The least THING is LIKE none: between two that are LIKE one another it stands best, so another one begins. */
+    private static void laidWithTheLeastBetween() {
+        PalaceOfRooms x = new PalaceOfRooms();
+        for (int thing = 1; thing < 4; thing++) {
+            x.marks(thing, 255);
+        }
+        int[] between = {1, 0, 2};
+        due.is("20: MARKS", x.laid(Due.row(2, 1, 0), 3, -1), 0);
+        for (int i = 0; i < 3; i++) {
+            due.is("20: 0 between 1 and 2", x.laid(Due.row(2, 1, 0), 3, i), between[i]);
+        }
+        due.is("20: of four, two that are LIKE stand side by side", x.laid(Due.row(3, 2, 1, 0), 4, -1), 8);
+        x.marks(1, 0);
+        due.is("20: 0 and 1 are LIKE none", x.laid(Due.row(3, 2, 1, 0), 4, -1), 0);
+        due.is("20: 0 begins again", x.laid(Due.row(3, 2, 1, 0), 4, 0), 0);
+        due.is("20: 2 behind it", x.laid(Due.row(3, 2, 1, 0), 4, 1), 2);
+        due.is("20: 1 between 2 and 3", x.laid(Due.row(3, 2, 1, 0), 4, 2), 1);
+    }
+
+    private static void laidAfterLongerRows() {
+        PalaceOfRooms x = new PalaceOfRooms();
+        for (int thing = 0; thing < 8; thing++) {
+            x.marks(thing, 255);
+        }
+        for (int n = 8; n >= 1; n--) {
+            due.is("20: " + n + " behind longer rows", x.laid(Due.row(7, 6, 5, 4, 3, 2, 1, 0), n, -1), 8 * (n - 1));
+            due.is("20: the first of " + n, x.laid(Due.row(7, 6, 5, 4, 3, 2, 1, 0), n, 0), 8 - n);
+        }
     }
 }
