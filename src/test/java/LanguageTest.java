@@ -43,6 +43,8 @@ public final class LanguageTest {
             if (open) {
                 methods.add(method.toString().replaceAll(".*PalaceOfRooms\\.", ""));
                 due.is(method + " answers an int", method.getReturnType() == int.class ? 1 : 0, 1);
+            } else {
+                due.is(method + " bears a name of the face", namesOfTheFace().contains(method.getName()) ? 1 : 0, 0);
             }
         }
         due.is("the face is " + methods, methods.equals(new TreeSet<>(Arrays.asList(FACE))) ? 1 : 0, 1);
@@ -70,11 +72,16 @@ public final class LanguageTest {
         return Modifier.isPrivate(member.getModifiers());
     }
 
-    private static void classesInside() {
-        Set<String> face = new TreeSet<>();
+    private static Set<String> namesOfTheFace() {
+        Set<String> names = new TreeSet<>();
         for (String method : FACE) {
-            face.add(method.replaceAll("\\(.*", ""));
+            names.add(method.replaceAll("\\(.*", ""));
         }
+        return names;
+    }
+
+    private static void classesInside() {
+        Set<String> face = namesOfTheFace();
         Class<?>[] inside = PalaceOfRooms.class.getDeclaredClasses();
         due.is("some twelve classes", inside.length < 12 ? 1 : 0, 1);
         for (Class<?> one : inside) {
